@@ -540,7 +540,7 @@ public final class SameAgain {
 
         private final Code code;
         private final Pairing pairing = new Pairing();
-        /** Of each two starts, how many lines from there on are alike: all rows up to that length are, and none above. */
+        /** Of each two starts, how many lines from there on are alike: rows up to that length are, longer ones not. */
         private final int[] reach = new int[MOST_LINES * MOST_LINES];
         private int longestLength = 0;
         private int longestOne = 0;
