@@ -371,6 +371,8 @@ public final class PromiseTest {
         // The same at both places in two rows, not in the third: told twice.
         SameAgain z = Due.code("1+1", "2+2", "3+4");
         due.is("13 not the same at both in each", z.pulled(0, 2, 0, 1, 1), 2);
+        due.is("13 not in the first", Due.code("3+4", "1+1", "2+2").pulled(0, 2, 0, 1, 1), 2);
+        due.is("13 not in the second", Due.code("1+1", "3+4", "2+2").pulled(0, 2, 0, 1, 1), 2);
         due.is("13 the same at both in each", Due.code("1+1", "2+2", "3+3").pulled(0, 2, 0, 1, 1), 1);
         due.is("13 the same across lines", Due.code("1", "1", "+", "2", "2").pulled(0, 2, 0, 2, 1), 1);
         // A name and a number never are the same; a row's first sign may be another row's second.
@@ -447,6 +449,11 @@ public final class PromiseTest {
         // The second one shares a line with a taken row that is not the first one.
         SameAgain shared = Due.code("A", "B", "C", "D", "+", "A", "B", "C", "D", "E", "F", "G", "-", "D", "E", "F", "G");
         due.is("15 a line shared in a later row", shared.two(0, 0), 1);
+        // By way 2 two that save 1 each, by way 0 the first alone: no call leaves anything to the next.
+        SameAgain y = Due.code("A", "B", "C", "D", "+", "F", "G", "1", "H", "J", "-",
+            "A", "B", "C", "D", "F", "G", "2", "H", "J");
+        due.is("15 two by way 2", y.two(0, 2), 2);
+        due.is("15 one by way 0", y.two(0, 0), 1);
         for (int way : NOT_A_WAY) {
             due.is("15 way " + way, x.two(0, way), OUTSIDE);
         }
@@ -725,6 +732,15 @@ public final class PromiseTest {
         due.is("23 of no lines", y.restore(0), 1);
         due.is("23 no lines again", y.told(1), 0);
         due.is("23 none is like", y.like(0, 0, 0, 1), 0);
+
+        SameAgain z = Due.code("a");
+        z.image(0);
+        Due.say(z, "a");
+        z.line();
+        due.is("23 like in two lines", z.like(0, 0, 1, 1), 0b11);
+        z.restore(0);
+        due.is("23 the line that is gone is like none", z.like(0, 0, 1, 1), 0);
+        due.is("23 nothing is like it", z.like(0, 0, 0, 1), 0b1);
     }
 
     private static void told() {
