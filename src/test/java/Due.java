@@ -1,4 +1,5 @@
 import java.util.ArrayList;
+import java.util.Arrays;
 import java.util.List;
 
 /** What the tests share: answers that are due, and code told as text. */
@@ -44,9 +45,27 @@ final class Due {
         SameAgain x = new SameAgain();
         for (String line : lines) {
             say(x, line);
-            x.line();
+            if (line.length() > 8 || x.line() < 0) {
+                throw new IllegalArgumentException("the test's own code is too long: " + String.join(" ", lines));
+            }
         }
         return x;
+    }
+
+    /** So many lines that all read the same. */
+    static SameAgain same(String line, int times) {
+        String[] lines = new String[times];
+        Arrays.fill(lines, line);
+        return code(lines);
+    }
+
+    static String[] joined(String[]... rows) {
+        return Arrays.stream(rows).flatMap(Arrays::stream).toArray(String[]::new);
+    }
+
+    /** One line for each sign. */
+    static String[] lines(String signs) {
+        return signs.split("");
     }
 
     static void change(SameAgain x, int line, String signs) {
