@@ -37,6 +37,7 @@ public final class GroupsEdgeTest {
         wholeToldByAnyStart();
         wholeByEachWay();
         wholeRefused();
+        eachVersionByItself();
         due.end();
     }
 
@@ -297,6 +298,29 @@ public final class GroupsEdgeTest {
         due.is("12 one LINE more is not one for one", Due.code("a", "ab", "-", "c", "dc").whole(0, 1, 0, 1), 1);
         due.is("12 ahead it is not one for one", Due.code("ab", "=a", "-", "cd", "=d").whole(0, 1, 1, 1), 1);
         due.is("12 ahead it is", Due.code("ab", "=a", "-", "cd", "=c").whole(0, 1, 1, 1), 0);
+    }
+
+    /** The first VERSION and the last of four: what the one has and the other has not, asked in turn. */
+    private static void eachVersionByItself() {
+        SameAgain x = signs("AB+AB");
+        for (int v = 1; v < 4; v++) {
+            x.version();
+        }
+        Due.change(x, 3, "-");
+        Due.change(x, 4, "!");
+        int[] wantFirst = {2, 0, 3};
+        for (int turn = 0; turn < 2; turn++) {
+            for (int what = 0; what < 3; what++) {
+                due.is("9 VERSION 0, what " + what, x.longest(0, 0, what), wantFirst[what]);
+                due.is("9 VERSION 3, what " + what, x.longest(3, 0, what), NONE);
+            }
+            due.is("10 VERSION 0", x.like(0, 0, 0, 2), 0b01001);
+            due.is("10 VERSION 3", x.like(3, 0, 0, 2), 0b00001);
+            due.is("11 VERSION 0", x.groups(0, 0, 2, -1), 1);
+            due.is("11 VERSION 3", x.groups(3, 0, 2, -1), 0);
+            due.is("12 VERSION 0", x.whole(0, 0, 0, 2), 1);
+            due.is("12 VERSION 3", x.whole(3, 0, 0, 2), NO);
+        }
     }
 
     private static void wholeRefused() {

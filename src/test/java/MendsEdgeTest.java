@@ -24,6 +24,7 @@ public final class MendsEdgeTest {
         forgottenOfSeveralTheFirst();
         forgottenFirstNameThatFits();
         forgottenGreatestPlace();
+        forgottenInEachVersion();
         forgottenRefused();
         partedBehindOneInWhichTheyWere();
         partedFirstOfSeveral();
@@ -44,6 +45,7 @@ public final class MendsEdgeTest {
         farUnknown();
         nearEachCost();
         nearRefused();
+        farAndNearInEachVersion();
         imagesZeroAndOne();
         imageThatWasNotKept();
         imageOfNothing();
@@ -71,6 +73,9 @@ public final class MendsEdgeTest {
         isForgotten("16 rows that share one", y, 0, 1, 2, NONE, NONE);
         isForgotten("16 rows that share one, turned round", y, 1, 0, 2, NONE, NONE);
         isForgotten("16 a LINE less, and they touch", y, 1, 2, 1, 0, 'b');
+        SameAgain z = Due.code("+", "aa", "bb", "cb");
+        isForgotten("16 rows that share one, behind the first LINE", z, 1, 2, 2, NONE, NONE);
+        isForgotten("16 and turned round", z, 2, 1, 2, NONE, NONE);
         isForgotten("16 the same row", Due.code("ab"), 0, 0, 1, NONE, NONE);
     }
 
@@ -137,6 +142,32 @@ public final class MendsEdgeTest {
         other[9] = "*******b";
         isForgotten("16 the eighth sign of the tenth LINE", Due.code(Due.joined(one, other)), 0, 10, 10, 97, 'a');
         isForgotten("16 the first sign of the first LINE", Due.code("abb", "bbb"), 0, 1, 1, 0, 'a');
+    }
+
+    private static void forgottenInEachVersion() {
+        SameAgain x = Due.code("aa", "bb");
+        x.version();
+        Due.change(x, 1, "bc");
+        for (int turn = 0; turn < 2; turn++) {
+            for (int what = 0; what < 2; what++) {
+                due.is("16 in VERSION 1, what " + what, x.forgotten(1, 0, 1, 1, what), what == 0 ? 0 : 'c');
+                due.is("16 in VERSION 0, what " + what, x.forgotten(0, 0, 1, 1, what), NONE);
+            }
+        }
+    }
+
+    private static void farAndNearInEachVersion() {
+        SameAgain x = Due.code("a", "b");
+        for (int v = 1; v < 4; v++) {
+            x.version();
+        }
+        Due.change(x, 1, "++");
+        for (int turn = 0; turn < 2; turn++) {
+            due.is("20 in VERSION 3", x.far(3, 0, 1), 5);
+            due.is("20 in VERSION 0", x.far(0, 0, 1), 1);
+            due.is("21 in VERSION 3", x.near(3, 0, 4), 0b01);
+            due.is("21 in VERSION 0", x.near(0, 0, 4), 0b11);
+        }
     }
 
     private static void forgottenRefused() {
@@ -357,6 +388,11 @@ public final class MendsEdgeTest {
         for (int k : new int[] {LEAST, -1, 3, 4, 19, 20, MOST}) {
             due.is("19 k " + k, x.mend(0, 0, 3, 3, k, -1), OUTSIDE);
         }
+        Due.change(x, 4, "e4");
+        Due.change(x, 1, "b5");
+        due.is("18 the k-th of both rows", x.mends(0, 0, 3, 3), 0b101);
+        due.is("19 the k-th of the second was changed, too", x.mend(0, 0, 3, 3, 1, -1), NO);
+        due.is("19 the last still", x.mend(0, 0, 3, 3, 2, -1), 3);
         due.is("19 length 1, k 0", x.mend(0, 0, 3, 1, 0, -1), 2);
         due.is("19 length 1, k 1", x.mend(0, 0, 3, 1, 1, -1), OUTSIDE);
         due.is("19 length 20, k 19", x.mend(0, 0, 3, 20, 19, -1), NO);

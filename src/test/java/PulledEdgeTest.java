@@ -35,6 +35,7 @@ public final class PulledEdgeTest {
         twoThatShareALine();
         twoOrOneAlone();
         twoRefused();
+        eachVersionByItself();
         due.end();
     }
 
@@ -85,6 +86,7 @@ public final class PulledEdgeTest {
         isPulled("13 told by the least", x, 0, 0, 3, 0b10001, 0, 0);
         isPulled("13 told by one that is not TAKEN", x, 0, 2, 3, 0b10001, 0, 0);
         isPulled("13 told by the last", x, 0, 4, 3, 0b10001, 0, 0);
+        isPulled("13 the least is not 0", signs("+A-A"), 0, 3, 1, 0b1010, 0, -2);
     }
 
     private static void toldNothing() {
@@ -98,6 +100,9 @@ public final class PulledEdgeTest {
     private static void toldOnce() {
         isPulled("13 both places the same", Due.code("a=a", "b=b"), 1, 0, 1, 0b11, 1, -3);
         isPulled("13 in another LINE", signs("aa+bb"), 1, 0, 2, 0b1001, 1, -2);
+        isPulled("13 in another LINE, behind others", signs("+A11-A22"), 2, 1, 3, 0b100010, 1, -1);
+        isPulled("13 in the third LINE", signs("1+1=2+2"), 2, 0, 3, 0b10001, 1, -1);
+        isPulled("13 in the third LINE another one", signs("1+1=2+3"), 2, 0, 3, 0b10001, 2, -2);
         isPulled("13 all eight places", Due.code("aaaaaaaa", "bbbbbbbb"), 1, 0, 1, 0b11, 1, -3);
         isPulled("13 eight places, each by itself", Due.code("abcdefgh", "bcdefgha"), 1, 0, 1, 0b11, 8, -10);
         isPulled("13 numbers the same in each", Due.code("1+1", "2+2"), 2, 0, 1, 0b11, 1, -3);
@@ -267,6 +272,43 @@ public final class PulledEdgeTest {
         due.is("15 one that crosses both saves more", signs("ABCDEF+ABCDEF").two(0, 0), 3);
         due.is("15 the best saves 2, a second one nothing", signs("BCDEF+BCDEFGHI-GHI").two(0, 0), 2);
         due.is("15 the best saves 2, a second one 1", signs("BCDEF+BCDEFGHIJ-GHIJ").two(0, 0), 3);
+    }
+
+    /** The first VERSION and the last of four: what the one has and the other has not, asked in turn. */
+    private static void eachVersionByItself() {
+        SameAgain x = signs("ABCD+ABCD");
+        for (int v = 1; v < 4; v++) {
+            x.version();
+        }
+        Due.change(x, 0, "aa");
+        Due.change(x, 5, "bc");
+        Due.change(x, 8, "!");
+        int[] best = {1, 0, 4};
+        int[] pulled = {0b100001, 0, 1};
+        for (int turn = 0; turn < 2; turn++) {
+            for (int what = 0; what < 3; what++) {
+                due.is("13 VERSION 0, what " + what, x.pulled(0, 0, 0, 4, what), pulled[what]);
+                due.is("13 VERSION 3, what " + what, x.pulled(3, 0, 0, 4, what), NO_PULLED);
+                due.is("14 VERSION 0, what " + what, x.best(0, 0, what), best[what]);
+                due.is("14 VERSION 3, what " + what, x.best(3, 0, what), NONE);
+            }
+            due.is("15 VERSION 0", x.two(0, 0), 1);
+            due.is("15 VERSION 3", x.two(3, 0), 0);
+        }
+        Due.change(x, 5, "bb");
+        due.is("13 TOLD in VERSION 3", x.pulled(3, 1, 0, 3, 1), 1);
+        due.is("13 TOLD in VERSION 0", x.pulled(0, 1, 0, 3, 1), 0);
+        SameAgain y = signs("ABCDEFGHEFGHABCD");
+        y.version();
+        Due.change(y, 15, "!");
+        y.version();
+        Due.change(y, 11, "?");
+        for (int turn = 0; turn < 2; turn++) {
+            due.is("15 two", y.two(0, 0), 2);
+            due.is("15 one alone", y.two(1, 0), 1);
+            due.is("15 two again", y.two(0, 0), 2);
+            due.is("15 none", y.two(2, 0), 0);
+        }
     }
 
     private static void twoRefused() {
