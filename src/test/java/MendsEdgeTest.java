@@ -50,6 +50,7 @@ public final class MendsEdgeTest {
         imageThatWasNotKept();
         imageOfNothing();
         imageOfAll();
+        linesThatAreGone();
         imageIsNotChanged();
         restoreLeavesThePad();
         toldEach();
@@ -629,6 +630,25 @@ public final class MendsEdgeTest {
         }
         due.is("23 another object's image is its own", y.restore(0), 1);
         due.is("23 it is empty", y.told(1), 0);
+    }
+
+    private static void linesThatAreGone() {
+        SameAgain x = signs("a");
+        x.image(0);
+        Due.say(x, "a");
+        x.line();
+        x.version();
+        due.is("10 two LINES", x.like(0, 0, 1, 1), 0b11);
+        x.restore(0);
+        due.is("10 the second is gone", x.like(0, 0, 1, 1), 0);
+        due.is("10 the first is alone", x.like(0, 0, 0, 1), 0b1);
+        due.is("8 none is alike to it", x.alike(0, 0, 0, 1, 1), 0);
+        due.is("12 it is in no GROUP", x.whole(0, 0, 1, 1), NO);
+        due.is("13 it is not TAKEN", x.pulled(0, 0, 1, 1, 0), -1005);
+        due.is("9 none is LONGEST", x.longest(0, 0, 0), NONE);
+        due.is("20 it is UNKNOWN", x.far(0, 0, 1), UNKNOWN);
+        due.is("21 it is not NEAR", x.near(0, 0, 24), 0b1);
+        due.is("18 no VERSION is behind", x.mends(0, 0, 1, 1), UNKNOWN);
     }
 
     private static void imageIsNotChanged() {

@@ -217,6 +217,9 @@ public final class PulledEdgeTest {
     private static void bestOfTwentyLines() {
         isBest("14 all the same", Due.same("a", 20), 0, 10, 0, 4);
         isBest("14 ten and ten", signs("ABCDEFGHIJABCDEFGHIJ"), 0, 7, 0, 10);
+        // More than thirty save here, and those of the greatest length save most.
+        isBest("14 nine, nine and two", signs("ABCDEFGHIABCDEFGHIAB"), 0, 6, 0, 9);
+        isBest("14 eight, eight and four", signs("ABCDEFGHABCDEFGHABCD"), 0, 5, 0, 8);
         isBest("14 at the last LINES", signs("!(&=.,/;:?@ABCD+ABCD"), 0, 1, 11, 4);
         isBest("14 none of twenty", signs("ABCDEFGHIJKLMNOPQRST"), 2, NONE, NONE, NONE);
     }
