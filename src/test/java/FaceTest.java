@@ -15,6 +15,7 @@ import java.util.regex.Pattern;
 /** The public face as the document gives it, and what the rules of the language leave out. */
 public final class FaceTest {
     private static final Path SOURCE = Path.of("src/main/java/SameAgain.java");
+    private static final Path DOC = Path.of("../shared/DOC.md");
     private static final String METHODS = "say1 wipe0 line0 change1 version0 sign3 alike5 longest3 like4 groups4 whole4"
         + " pulled5 best3 two2 forgotten5 parted4 mends4 mend6 far3 near3 image1 restore1 told1";
     private static final String[] LEFT_OUT = {"\\bimport\\b", "\\bpackage\\b", "->", "::", "\\bcatch\\b", "\\bfinally\\b",
@@ -27,7 +28,9 @@ public final class FaceTest {
         constants();
         members();
         classesInside();
+        fewFields(SameAgain.class);
         source();
+        faceAsTheDocumentWritesIt();
         due.end();
     }
 
@@ -76,6 +79,7 @@ public final class FaceTest {
         for (Class<?> c : inside) {
             due.holds(c + " is static", Modifier.isStatic(c.getModifiers()));
             due.holds(c + " is not public", !Modifier.isPublic(c.getModifiers()));
+            fewFields(c);
             for (Method method : c.getDeclaredMethods()) {
                 due.holds(method + " bears a name of the face",
                     !(" " + METHODS).matches(".* " + method.getName() + "[0-9].*"));
@@ -86,6 +90,28 @@ public final class FaceTest {
                 due.holds(field + " is a constant, if it is static", !Modifier.isStatic(field.getModifiers()) || isConstant);
             }
         }
+    }
+
+    private static void fewFields(Class<?> c) {
+        long fields = Arrays.stream(c.getDeclaredFields()).filter(f -> !Modifier.isStatic(f.getModifiers())).count();
+        due.holds(c + " has at most twenty fields beside its constants", fields <= 20);
+    }
+
+    /** The names of parameters are not kept in the compiled class, so the two texts are laid side by side. */
+    private static void faceAsTheDocumentWritesIt() throws IOException {
+        String source = Files.readString(SOURCE);
+        String doc = Files.readString(DOC);
+        String face = doc.substring(doc.indexOf("```java") + 8, doc.indexOf("```\n", doc.indexOf("```java") + 8));
+        int members = 0;
+        for (String line : face.split("\n")) {
+            String member = line.trim();
+            if (member.startsWith("public ")) {
+                String inSource = member.endsWith(");") ? member.replace(";", " {") : member;
+                due.holds("the source has not: " + inSource, source.contains(inSource + "\n"));
+                members++;
+            }
+        }
+        due.is("members of the document's face, with the class", members, 26);
     }
 
     private static void source() throws IOException {
